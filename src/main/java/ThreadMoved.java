@@ -510,22 +510,21 @@ public final class ThreadMoved {
             return BAD;
         }
         before.copyFrom(now);
-        int found = NO_FAULT;
-        int went = 0;
-        while (went < n && found == NO_FAULT) {
-            found = sheets[k].faultAt(lane, f + went);
-            if (found == NO_FAULT) {
-                int d = sheets[k].cells[f + went];
-                if (refusalOf(d) != 0) {
-                    now.copyFrom(before);
-                    return -20 - went;
-                }
-                now.takeStep(d);
-                went++;
+        for (int i = 0; i < n; i++) {
+            int found = sheets[k].faultAt(lane, f + i);
+            if (found != NO_FAULT) {
+                tornFault = found;
+                return i;
             }
+            int d = sheets[k].cells[f + i];
+            if (refusalOf(d) != 0) {
+                now.copyFrom(before);
+                return -20 - i;
+            }
+            now.takeStep(d);
         }
-        tornFault = found;
-        return went;
+        tornFault = NO_FAULT;
+        return n;
     }
 
     public int torn() {
@@ -1029,7 +1028,7 @@ public final class ThreadMoved {
 
     /** The tape and what it tells, held apart from all else until no fault is found. */
     private static final class Reader {
-        private static final int TAPE_END = 0, NAME = 1, NUMBER = 2, SEMICOLON = 3;
+        private static final int TAPE_END = 0, NAME = 1, NUMBER = 2, SEMICOLON = 3, UNKNOWN = 4;
 
         private static final int NO_TOKEN = 1, MISPLACED = 2, OUT_OF_BOUNDS = 3, TWICE = 4;
         private static final int TOO_MANY = 5, NOT_THERE = 6, EATEN_AT_ONCE = 7;
@@ -1049,6 +1048,7 @@ public final class ThreadMoved {
         private int place;
         private int kind;
         private int start;
+        /** Of a number; of no meaning with other tokens. */
         private int value;
         /** What stands in a text once at most and has stood there, as bits. */
         private int told;
@@ -1097,41 +1097,27 @@ public final class ThreadMoved {
                 place++;
             }
             start = place;
-            if (place >= length) {
-                kind = TAPE_END;
-            } else if (tape[place] == ';') {
-                kind = SEMICOLON;
-                place++;
-            } else if (isLetterAt(place)) {
-                kind = NAME;
-                while (place < length && isLetterAt(place)) {
-                    place++;
-                }
-            } else if (isFigureAt(place)) {
-                nextNumber();
-            } else {
-                fail(NO_TOKEN, start);
-            }
-        }
-
-        private void nextNumber() {
-            kind = NUMBER;
+            kind = place < length ? kindOf(tape[place]) : TAPE_END;
             value = 0;
-            while (place < length && isFigureAt(place)) {
+            // names and numbers are as long as may be, all else is one byte
+            int most = kind == NAME || kind == NUMBER ? length : Math.min(start + 1, length);
+            while (place < most && kindOf(tape[place]) == kind) {
                 value = value * 10 + tape[place] - '0';
                 place++;
             }
-            if (place - start > 2) {
+            if (kind == UNKNOWN || (kind == NUMBER && place - start > 2)) {
                 fail(NO_TOKEN, start);
             }
         }
 
-        private boolean isLetterAt(int i) {
-            return tape[i] >= 'a' && tape[i] <= 'z';
-        }
-
-        private boolean isFigureAt(int i) {
-            return tape[i] >= '0' && tape[i] <= '9';
+        private static int kindOf(byte b) {
+            if (b >= 'a' && b <= 'z') {
+                return NAME;
+            }
+            if (b >= '0' && b <= '9') {
+                return NUMBER;
+            }
+            return b == ';' ? SEMICOLON : UNKNOWN;
         }
 
         private boolean isWord(String word) {
@@ -1213,20 +1199,18 @@ public final class ThreadMoved {
                 return;
             }
             int d = nextWithin(0, MAX_DOORS - 1);
-            int law = laws == BAR_LAWS ? laws + d : laws + 10 * d + nextPart(laws, d);
+            int law = laws + (laws == BAR_LAWS ? d : 10 * d);
+            if (laws == TURN_LAWS) {
+                law += nextWithin(1, MAX_TURN);
+            } else if (laws == SWAP_LAWS) {
+                int other = nextWithin(0, MAX_DOORS - 1);
+                if (other == d) {
+                    fail(TWICE, start);
+                }
+                law += other;
+            }
             plan.rules[plan.ruleCount] = law;
             plan.ruleCount++;
-        }
-
-        private int nextPart(int laws, int d) {
-            if (laws == TURN_LAWS) {
-                return nextWithin(1, MAX_TURN);
-            }
-            int other = nextWithin(0, MAX_DOORS - 1);
-            if (other == d) {
-                fail(TWICE, start);
-            }
-            return other;
         }
 
         private void readBeast() {
