@@ -4,15 +4,25 @@ import java.nio.charset.StandardCharsets;
 final class Check {
     private static int wrong = 0;
     private static int done = 0;
+    private static String about = "";
 
     private Check() {
+    }
+
+    /** What the answers due from here on are about: it stands ahead of each that is wrong. */
+    static void about(String what) {
+        about = what + ": ";
+    }
+
+    static int answersSoFar() {
+        return done;
     }
 
     static void due(String call, long got, long want) {
         done++;
         if (got != want) {
             wrong++;
-            System.out.println(call + " answered " + got + ", due is " + want);
+            System.out.println(about + call + " answered " + got + ", due is " + want);
         }
     }
 
@@ -48,6 +58,20 @@ final class Check {
     static int tell(ThreadMoved x, String text) {
         lay(x, text);
         return x.text();
+    }
+
+    /** A text that has to be taken. */
+    static void taken(String text, int lines) {
+        ThreadMoved x = new ThreadMoved();
+        due("text: " + text, tell(x, text), lines);
+        due("fault of " + text, x.fault(), 0);
+    }
+
+    /** A text that has to be refused, on a new object. */
+    static void faulty(String text, int kind, int place) {
+        ThreadMoved x = new ThreadMoved();
+        due("text: " + text, tell(x, text), -10 - place);
+        due("fault of " + text, x.fault(), kind);
     }
 
     /** A new object with a text that has to be taken. */

@@ -43,164 +43,152 @@ public final class TextTest {
         Check.due("the tape is empty behind a fault", x.count(4), 0);
     }
 
-    private static void taken(String text, int lines) {
-        ThreadMoved x = new ThreadMoved();
-        Check.due("text: " + text, Check.tell(x, text), lines);
-        Check.due("fault: " + text, x.fault(), 0);
-    }
-
-    private static void faulty(String text, int kind, int place) {
-        ThreadMoved x = new ThreadMoved();
-        Check.due("text: " + text, Check.tell(x, text), -10 - place);
-        Check.due("fault: " + text, x.fault(), kind);
-    }
-
     private static void takenTexts() {
         Check.due("fault of a new object", new ThreadMoved().fault(), 0);
-        taken("", 0);
-        taken("    ", 0);
-        taken("rooms 2;", 1);
-        taken("rooms 7;", 1);
-        taken("rooms07;", 1);
-        taken("  rooms   7  ;  in6;", 2);
-        taken("door 0 1barred;door 1 1 barred ;", 2);
-        taken("bar 0;swap 1 0;turn 1 6;door 0 0;door 1 1;", 5);
-        taken("in 1;beast 0 sleeps;period 6;string 12;", 4);
-        taken("string 0;period 1;", 2);
-        taken("beast 1hungry;", 1);
-        taken("rooms 7;in 5;beast 6 left;", 3);
-        taken("door 0 1;".repeat(10) + "bar 9;".repeat(6), 16);
+        Check.taken("", 0);
+        Check.taken("    ", 0);
+        Check.taken("rooms 2;", 1);
+        Check.taken("rooms 7;", 1);
+        Check.taken("rooms07;", 1);
+        Check.taken("  rooms   7  ;  in6;", 2);
+        Check.taken("door 0 1barred;door 1 1 barred ;", 2);
+        Check.taken("bar 0;swap 1 0;turn 1 6;door 0 0;door 1 1;", 5);
+        Check.taken("in 1;beast 0 sleeps;period 6;string 12;", 4);
+        Check.taken("string 0;period 1;", 2);
+        Check.taken("beast 1hungry;", 1);
+        Check.taken("rooms 7;in 5;beast 6 left;", 3);
+        Check.taken("door 0 1;".repeat(10) + "bar 9;".repeat(6), 16);
     }
 
     private static void tokens() {
-        faulty("!", 1, 0);
-        faulty("rooms 3;\n", 1, 8);
-        faulty("rooms 3;Rooms 3;", 1, 8);
-        faulty("rooms\t3;", 1, 5);
-        faulty("rooms 003;", 1, 6);
-        faulty("rooms 1234567890123;", 1, 6);
-        faulty("rooms -3;", 1, 6);
-        faulty("\u00e9", 1, 0);
-        faulty("in 1,", 1, 4);
-        faulty("in\0001;", 1, 2);
-        faulty("123", 1, 0);
-        faulty("`", 1, 0);
-        faulty("{", 1, 0);
-        faulty("in /;", 1, 3);
-        faulty("in :;", 1, 3);
+        Check.faulty("!", 1, 0);
+        Check.faulty("rooms 3;\n", 1, 8);
+        Check.faulty("rooms 3;Rooms 3;", 1, 8);
+        Check.faulty("rooms\t3;", 1, 5);
+        Check.faulty("rooms 003;", 1, 6);
+        Check.faulty("rooms 1234567890123;", 1, 6);
+        Check.faulty("rooms -3;", 1, 6);
+        Check.faulty("\u00e9", 1, 0);
+        Check.faulty("in 1,", 1, 4);
+        Check.faulty("in\0001;", 1, 2);
+        Check.faulty("123", 1, 0);
+        Check.faulty("`", 1, 0);
+        Check.faulty("{", 1, 0);
+        Check.faulty("in /;", 1, 3);
+        Check.faulty("in :;", 1, 3);
     }
 
     private static void misplaced() {
-        faulty(";", 2, 0);
-        faulty("12", 2, 0);
-        faulty("  room 3;", 2, 2);
-        faulty("roomss 3;", 2, 0);
-        faulty("looms 3;", 2, 0);
-        faulty("moor 0 1;", 2, 0);
-        faulty("rooms z;", 2, 6);
-        faulty("az;", 2, 0);
-        faulty("barred;", 2, 0);
-        faulty("sleeps;", 2, 0);
-        faulty("rooms;", 2, 5);
-        faulty("rooms", 2, 5);
-        faulty("rooms  ", 2, 7);
-        faulty("rooms 3", 2, 7);
-        faulty("rooms 3  ", 2, 9);
-        faulty("rooms 3 3;", 2, 8);
-        faulty("rooms 3 rooms 3;", 2, 8);
-        faulty("rooms 3;;", 2, 8);
-        faulty("door 0;", 2, 6);
-        faulty("door 0 1 0;", 2, 9);
-        faulty("door 0 1 barre;", 2, 9);
-        faulty("door 0 1 barred barred;", 2, 16);
-        faulty("door 0 1 barred", 2, 15);
-        faulty("door barred 0 1;", 2, 5);
-        faulty("in 1 barred;", 2, 5);
-        faulty("beast 1;", 2, 7);
-        faulty("beast 1 barred;", 2, 8);
-        faulty("beast 1 2;", 2, 8);
-        faulty("beast left 1;", 2, 6);
-        faulty("beast 1", 2, 7);
-        faulty("beast 1 lef;", 2, 8);
-        faulty("swap 0;", 2, 6);
-        faulty("swap 0 1 2;", 2, 9);
-        faulty("turn 0;", 2, 6);
-        faulty("bar;", 2, 3);
-        faulty("bar 0 1;", 2, 6);
-        faulty("string x;", 2, 7);
-        faulty("period;", 2, 6);
-        faulty("in;", 2, 2);
+        Check.faulty(";", 2, 0);
+        Check.faulty("12", 2, 0);
+        Check.faulty("  room 3;", 2, 2);
+        Check.faulty("roomss 3;", 2, 0);
+        Check.faulty("looms 3;", 2, 0);
+        Check.faulty("moor 0 1;", 2, 0);
+        Check.faulty("rooms z;", 2, 6);
+        Check.faulty("az;", 2, 0);
+        Check.faulty("barred;", 2, 0);
+        Check.faulty("sleeps;", 2, 0);
+        Check.faulty("rooms;", 2, 5);
+        Check.faulty("rooms", 2, 5);
+        Check.faulty("rooms  ", 2, 7);
+        Check.faulty("rooms 3", 2, 7);
+        Check.faulty("rooms 3  ", 2, 9);
+        Check.faulty("rooms 3 3;", 2, 8);
+        Check.faulty("rooms 3 rooms 3;", 2, 8);
+        Check.faulty("rooms 3;;", 2, 8);
+        Check.faulty("door 0;", 2, 6);
+        Check.faulty("door 0 1 0;", 2, 9);
+        Check.faulty("door 0 1 barre;", 2, 9);
+        Check.faulty("door 0 1 barred barred;", 2, 16);
+        Check.faulty("door 0 1 barred", 2, 15);
+        Check.faulty("door barred 0 1;", 2, 5);
+        Check.faulty("in 1 barred;", 2, 5);
+        Check.faulty("beast 1;", 2, 7);
+        Check.faulty("beast 1 barred;", 2, 8);
+        Check.faulty("beast 1 2;", 2, 8);
+        Check.faulty("beast left 1;", 2, 6);
+        Check.faulty("beast 1", 2, 7);
+        Check.faulty("beast 1 lef;", 2, 8);
+        Check.faulty("swap 0;", 2, 6);
+        Check.faulty("swap 0 1 2;", 2, 9);
+        Check.faulty("turn 0;", 2, 6);
+        Check.faulty("bar;", 2, 3);
+        Check.faulty("bar 0 1;", 2, 6);
+        Check.faulty("string x;", 2, 7);
+        Check.faulty("period;", 2, 6);
+        Check.faulty("in;", 2, 2);
     }
 
     private static void bounds() {
-        faulty("rooms 1;", 3, 6);
-        faulty("rooms 8;", 3, 6);
-        faulty("door 7 0;", 3, 5);
-        faulty("door 0 7;", 3, 7);
-        faulty("period 0;", 3, 7);
-        faulty("period 7;", 3, 7);
-        faulty("swap 10 0;", 3, 5);
-        faulty("swap 0 10;", 3, 7);
-        faulty("turn 10 1;", 3, 5);
-        faulty("turn 0 0;", 3, 7);
-        faulty("turn 0 7;", 3, 7);
-        faulty("bar 10;", 3, 4);
-        faulty("in 7;", 3, 3);
-        faulty("beast 7 left;", 3, 6);
-        faulty("string 13;", 3, 7);
-        faulty("string 99;", 3, 7);
+        Check.faulty("rooms 1;", 3, 6);
+        Check.faulty("rooms 8;", 3, 6);
+        Check.faulty("door 7 0;", 3, 5);
+        Check.faulty("door 0 7;", 3, 7);
+        Check.faulty("period 0;", 3, 7);
+        Check.faulty("period 7;", 3, 7);
+        Check.faulty("swap 10 0;", 3, 5);
+        Check.faulty("swap 0 10;", 3, 7);
+        Check.faulty("turn 10 1;", 3, 5);
+        Check.faulty("turn 0 0;", 3, 7);
+        Check.faulty("turn 0 7;", 3, 7);
+        Check.faulty("bar 10;", 3, 4);
+        Check.faulty("in 7;", 3, 3);
+        Check.faulty("beast 7 left;", 3, 6);
+        Check.faulty("string 13;", 3, 7);
+        Check.faulty("string 99;", 3, 7);
     }
 
     private static void twice() {
-        faulty("rooms 3; rooms 3;", 4, 9);
-        faulty("period 1;period 1;", 4, 9);
-        faulty("in 0;in 0;", 4, 5);
-        faulty("beast 1 left;beast 1 left;", 4, 13);
-        faulty("string 1;string 1;", 4, 9);
-        faulty("swap 0 0;", 4, 7);
-        faulty("swap 9 09;", 4, 7);
+        Check.faulty("rooms 3; rooms 3;", 4, 9);
+        Check.faulty("period 1;period 1;", 4, 9);
+        Check.faulty("in 0;in 0;", 4, 5);
+        Check.faulty("beast 1 left;beast 1 left;", 4, 13);
+        Check.faulty("string 1;string 1;", 4, 9);
+        Check.faulty("swap 0 0;", 4, 7);
+        Check.faulty("swap 9 09;", 4, 7);
     }
 
     private static void tooMany() {
         String ten = "door 0 1;".repeat(10);
-        taken(ten, 10);
-        faulty(ten + "door 0 1;", 5, 90);
-        faulty("door 0 1;" + "bar 0;".repeat(6) + "swap 0 1;", 5, 45);
-        faulty("door 0 1;" + "bar 0;".repeat(6) + "turn 0 1;", 5, 45);
-        faulty("door 0 1;" + "bar 0;".repeat(6) + " bar 0;", 5, 46);
-        faulty("door 0 1;" + "turn 0 1;".repeat(6) + "bar 0;", 5, 63);
+        Check.taken(ten, 10);
+        Check.faulty(ten + "door 0 1;", 5, 90);
+        Check.faulty("door 0 1;" + "bar 0;".repeat(6) + "swap 0 1;", 5, 45);
+        Check.faulty("door 0 1;" + "bar 0;".repeat(6) + "turn 0 1;", 5, 45);
+        Check.faulty("door 0 1;" + "bar 0;".repeat(6) + " bar 0;", 5, 46);
+        Check.faulty("door 0 1;" + "turn 0 1;".repeat(6) + "bar 0;", 5, 63);
     }
 
     private static void behindAll() {
-        faulty("door 2 0; ", 6, 10);
-        faulty("door 0 2;", 6, 9);
-        faulty("rooms 6;door 0 6;", 6, 17);
-        taken("door 0 6;rooms 7;", 2);
-        faulty("in 2;", 6, 5);
-        faulty("beast 2 left;", 6, 13);
-        faulty("in 5;beast 5 left;", 6, 18);
-        faulty("bar 0;", 6, 6);
-        faulty("door 0 0;bar 1;", 6, 15);
-        faulty("door 0 0;turn 1 1;", 6, 18);
-        faulty("door 0 0;swap 0 1;", 6, 18);
-        faulty("door 0 0;swap 1 0;", 6, 18);
-        faulty("beast 0 left;", 7, 13);
-        faulty("in 1;beast 1 left;  ", 7, 20);
-        taken("beast 0 left;in 1;", 2);
+        Check.faulty("door 2 0; ", 6, 10);
+        Check.faulty("door 0 2;", 6, 9);
+        Check.faulty("rooms 6;door 0 6;", 6, 17);
+        Check.taken("door 0 6;rooms 7;", 2);
+        Check.faulty("in 2;", 6, 5);
+        Check.faulty("beast 2 left;", 6, 13);
+        Check.faulty("in 5;beast 5 left;", 6, 18);
+        Check.faulty("bar 0;", 6, 6);
+        Check.faulty("door 0 0;bar 1;", 6, 15);
+        Check.faulty("door 0 0;turn 1 1;", 6, 18);
+        Check.faulty("door 0 0;swap 0 1;", 6, 18);
+        Check.faulty("door 0 0;swap 1 0;", 6, 18);
+        Check.faulty("beast 0 left;", 7, 13);
+        Check.faulty("in 1;beast 1 left;  ", 7, 20);
+        Check.taken("beast 0 left;in 1;", 2);
     }
 
     /** A token is read when the one before has been taken: so no fault behind the first one counts. */
     private static void firstMet() {
-        faulty("rooms 8!", 3, 6);
-        faulty("rooms 3;rooms !", 4, 8);
-        faulty("rooms 3;rooms 9;", 4, 8);
-        faulty("swap 0 0!", 4, 7);
-        faulty("swap 0 0", 4, 7);
-        faulty("room 123;", 2, 0);
-        faulty("rooms 123 4", 1, 6);
-        faulty("in 9;in 9;", 3, 3);
-        faulty("in 5;beast 5 left", 2, 17);
-        faulty("door 0 1;".repeat(10) + "door !", 5, 90);
+        Check.faulty("rooms 8!", 3, 6);
+        Check.faulty("rooms 3;rooms !", 4, 8);
+        Check.faulty("rooms 3;rooms 9;", 4, 8);
+        Check.faulty("swap 0 0!", 4, 7);
+        Check.faulty("swap 0 0", 4, 7);
+        Check.faulty("room 123;", 2, 0);
+        Check.faulty("rooms 123 4", 1, 6);
+        Check.faulty("in 9;in 9;", 3, 3);
+        Check.faulty("in 5;beast 5 left", 2, 17);
+        Check.faulty("door 0 1;".repeat(10) + "door !", 5, 90);
     }
 
     /** What end() has cut off is not read, though it was on the tape. */
@@ -226,13 +214,13 @@ public final class TextTest {
 
     private static void wholeTape() {
         String blanks = " ".repeat(315);
-        taken(blanks + "in 1;", 1);
-        faulty(blanks + "in  1", 2, 320);
-        faulty(blanks + "in 12", 3, 318);
-        faulty(blanks + "rooms", 2, 320);
-        faulty(blanks + "in123", 1, 317);
-        faulty(blanks + "    !", 1, 319);
-        taken(" ".repeat(320), 0);
+        Check.taken(blanks + "in 1;", 1);
+        Check.faulty(blanks + "in  1", 2, 320);
+        Check.faulty(blanks + "in 12", 3, 318);
+        Check.faulty(blanks + "rooms", 2, 320);
+        Check.faulty(blanks + "in123", 1, 317);
+        Check.faulty(blanks + "    !", 1, 319);
+        Check.taken(" ".repeat(320), 0);
     }
 
     private static void refusedChangesNothing() {
