@@ -32,8 +32,8 @@ final class BoundaryImages {
             x.go(10);
             x.period(6);
             x.lurk(2, 1);
-            x.put(3);
             x.bite(0);
+            Check.due("another door is on his string, he is eaten", x.go(1), 12);
             Check.due("back(" + k + ")", x.back(k), 1);
             int[] due = {4, 2, 2, 2, 3, 1, 1, 3, 3, 0};
             for (int i = 0; i < due.length; i++) {

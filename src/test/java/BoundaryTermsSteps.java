@@ -15,6 +15,8 @@ final class BoundaryTermsSteps {
         stringLeads();
         stringBroken();
         canCome();
+        canComeByHabits();
+        canComeAskedAgain();
         rowsCompared();
         seen();
         lawFits();
@@ -171,6 +173,45 @@ final class BoundaryTermsSteps {
         Check.due("eaten if he stays, if he goes", x.alive(1), 0);
     }
 
+    private static void canComeByHabits() {
+        of("HE CAN come to a ROOM in n STEPS (24 at most), if by some row of STEPS he is there behind them and not EATEN;");
+        // he is in 3, the beast in 0
+        String house = "rooms 5;door 0 1;door 3 1;door 1 2;door 0 4;in 3;beast 0 ";
+        ThreadMoved x = Check.told(house + "sleeps;");
+        Check.due("sleeps: it stays in 0", x.alive(2), 2 + 4 + 8);
+        x = Check.told(house + "left;");
+        Check.due("left: it comes to 1, or is there, whenever he goes there", x.soonest(1, 0), NONE);
+        Check.due("left: he stays", x.alive(24), 8);
+        x = Check.told("rooms 5;door 0 4;door 3 1;door 1 0;door 4 2;door 1 2;in 3;beast 0 left;");
+        Check.due("left: it goes to 4 and back", x.soonest(4, 0), NONE);
+        Check.due("left: he can be in the other rooms", x.alive(24), 2 + 4 + 8);
+        x = Check.told("rooms 5;door 2 3;door 1 2;door 0 1;door 1 4;beast 1 left;");
+        Check.due("left: it leaves 1, and he goes there behind it", x.soonest(1, 0), 2);
+        Check.due("left: he waits a step", x.soonest(1, 10), 10);
+        Check.due("left: then he goes", x.soonest(1, 11), 2);
+        x = Check.told(house + "hungry;");
+        Check.due("hungry: it meets him in 1", x.soonest(1, 0), NONE);
+        Check.due("hungry: he stays", x.alive(24), 8);
+        x = Check.told(house + "turns;");
+        Check.due("turns: to 1 in step 0, from there by 1 of 3 in step 1: to him", x.alive(2), 0);
+        x.go(10);
+        x.lurk(0, 3);
+        Check.due("turns: to 4 in step 1", x.soonest(1, 0), 1);
+        Check.due("turns: back in step 2, to 4 in step 3", x.soonest(2, 0), 2);
+    }
+
+    /** What one question leaves is not taken for the answer of another. */
+    private static void canComeAskedAgain() {
+        of("HE CAN come to a ROOM in n STEPS (24 at most), if by some row of STEPS he is there behind them and not EATEN;");
+        ThreadMoved x = Check.told("rooms 4;door 0 1;door 0 2;door 0 3;");
+        Check.due("all rooms", x.alive(24), 15);
+        Check.due("room 3", x.soonest(3, 0), 1);
+        x.bar(2, true);
+        Check.due("not to 3 any more", x.soonest(3, 0), NONE);
+        Check.due("nor a step", x.soonest(3, 10), NONE);
+        Check.due("all but 3", x.alive(1), 7);
+    }
+
     private static void rowsCompared() {
         of("rows are compared by STEPS, DOORS by numbers ahead of staying (10).");
         ThreadMoved x = Check.told("rooms 4;door 0 2;door 0 1;door 1 3;door 2 3;door 2 3;");
@@ -292,11 +333,18 @@ final class BoundaryTermsSteps {
         x.hear(1, 1, true);
         x.hear(2, 0, true);
         Check.due("eaten: through his room", x.lair(1), 5);
-        x = Check.told("rooms 4;door 1 2;door 1 3;turn 0 1;period 2;");
+        x = Check.told("rooms 4;door 1 2;turn 0 1;period 2;");
+        x.hear(1, 2, true);
+        x.hear(2, 1, true);
+        x.hear(3, 3, true);
+        Check.due("left: dusk behind the second step", x.lair(1), 2);
+        x.go(10);
+        Check.due("left: dusk behind the first", x.lair(1), 0);
+        x = Check.told("rooms 4;door 1 2;door 1 3;period 2;");
         x.go(10);
         x.hear(1, 3, true);
-        x.hear(2, 1, true);
-        Check.due("turns: by step as it is then; dusk behind the first", x.lair(3), 2);
+        x.hear(3, 3, true);
+        Check.due("turns: step 1, and 3", x.lair(3), 2);
     }
 
     private static void walledUp() {
@@ -319,6 +367,13 @@ final class BoundaryTermsSteps {
         Check.due("24 are not", x.wall(0), 1);
         x = Check.told("rooms 3;door 1 2;door 2 0 barred;bar 1;period 6;in 2;beast 1 sleeps;");
         Check.due("it stays till the door is open", x.wall(0), 1);
+        x = Check.told("rooms 7;door 1 0;turn 0 1;period 4;in 2;beast 1 sleeps;");
+        for (int i = 0; i < 3; i++) {
+            x.go(10);
+        }
+        Check.due("in the very next step alone", x.wall(0), 1);
+        x.go(10);
+        Check.due("too late", x.wall(0), 0);
         x = Check.told("door 0 1 barred;in 1;beast 0 sleeps;");
         Check.due("it is there now", x.wall(0), NONE);
         x = Check.told("beast 1 left;");

@@ -140,7 +140,8 @@ final class BoundaryTermsText {
             for (String token : tokens) {
                 String rest = line.substring(place + token.length());
                 String[] wrong = token.equals(";") ? new String[] {"x", "1"}
-                        : token.matches("[0-9]+") ? new String[] {"x", ";", "barred"} : new String[] {"x", token + "s", "1"};
+                        : token.matches("[0-9]+") ? new String[] {"x", ";", "barred"}
+                        : new String[] {"x", token + "s", "z" + token.substring(1), token.substring(1), "1"};
                 for (String other : wrong) {
                     Check.faulty(line.substring(0, place) + other + rest, 2, place);
                 }
@@ -240,6 +241,11 @@ final class BoundaryTermsText {
         Check.faulty("door 0 1 bar;", 2, 9);
         Check.faulty("door 0 1 barred barred;", 2, 16);
         Check.faulty("door 0 barred;", 2, 7);
+        for (String line : LINES) {
+            if (!line.startsWith("door")) {
+                Check.faulty(line.replace(";", "barred ;"), 2, line.length() - 1);
+            }
+        }
         Check.faulty("rooms", 2, 5);
         Check.faulty("rooms 3;in  ", 2, 12);
         Check.faulty("rooms 3;in 1 ", 2, 13);
@@ -265,6 +271,8 @@ final class BoundaryTermsText {
         for (String line : once) {
             Check.faulty(line + line, 4, line.length());
             Check.faulty(line + DOORS + " " + line, 4, line.length() + 19);
+            String all = String.join("", once).replace("in 1", "in 0");
+            Check.faulty(all + line, 4, all.length());
         }
         Check.faulty(DOORS + "swap 0 0;", 4, 25);
         Check.faulty(DOORS + "swap 1 01;", 4, 25);

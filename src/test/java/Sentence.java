@@ -22,7 +22,12 @@ final class Sentence {
     private Sentence() {
     }
 
+    /** Where the document is not at hand, the tests run all the same; their words alone are not looked at. */
     static void readDocument() throws IOException {
+        if (!Files.exists(DOCUMENT)) {
+            System.out.println("there is no " + DOCUMENT + ": the words of the boundary tests are not held against it");
+            return;
+        }
         String document = Files.readString(DOCUMENT);
         SAID[TERMS] = terms(document);
         for (int p = 1; p <= PROMISES; p++) {
@@ -62,12 +67,18 @@ final class Sentence {
         endTest();
         current = place(promise) + ", \"" + words + "\"";
         Check.about(current);
+        if (SAID[promise] != null) {
+            name(promise, words);
+        }
+        answersBefore = Check.answersSoFar();
+    }
+
+    private static void name(int promise, String words) {
         int at = SAID[promise].indexOf(words);
         Check.dueTrue("the document says so", at >= 0);
         for (; at >= 0; at = SAID[promise].indexOf(words, at + 1)) {
             NAMED[promise].set(at, at + words.length());
         }
-        answersBefore = Check.answersSoFar();
     }
 
     private static void endTest() {
@@ -78,7 +89,7 @@ final class Sentence {
     /** Behind all tests: every word has been named. */
     static void finish() {
         endTest();
-        for (int p = 0; p <= PROMISES; p++) {
+        for (int p = 0; p <= PROMISES && SAID[p] != null; p++) {
             Check.about(place(p));
             StringBuilder left = new StringBuilder();
             for (int i = 0; i < SAID[p].length(); i++) {
