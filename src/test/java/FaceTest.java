@@ -1,13 +1,27 @@
-/** Promises 1 and 6 to 9: a new object, and what there is. */
+import java.io.IOException;
+import java.lang.reflect.Method;
+import java.lang.reflect.Modifier;
+import java.nio.file.Files;
+import java.nio.file.Path;
+import java.util.Arrays;
+import java.util.Set;
+import java.util.TreeSet;
+import java.util.regex.Matcher;
+import java.util.regex.Pattern;
+import java.util.stream.Collectors;
+
+/** "The public face", promises 1 and 6 to 9: a new object, and what there is. */
 public final class FaceTest {
-    public static void main(String[] args) {
+    private static final Path DOCUMENT = Path.of("../shared/DOC.md");
+
+    public static void main(String[] args) throws IOException {
+        documentsFace();
         constants();
         newObject();
         rules();
         doors();
         laws();
         leading();
-        readme();
         Check.finish();
     }
 
@@ -88,16 +102,28 @@ public final class FaceTest {
         Check.due("all ten lead", Check.told("door 0 1;".repeat(10)).doors(1), 1023);
     }
 
-    /** What README.md shows. */
-    private static void readme() {
-        ThreadMoved x = new ThreadMoved();
-        x.feed(0x726f6f6d7320333bL);
-        x.feed(0x646f6f7220302031L);
-        x.feed(0x3b62656173742032L);
-        x.feed(0x206c6566743b2020L);
-        Check.due("end(30)", x.end(30), 32);
-        Check.due("text()", x.text(), 3);
-        Check.due("go(0)", x.go(0), 1);
-        Check.due("soonest(0, 0)", x.soonest(0, 0), 1);
+    /** The lines of the document's face, each once, and nothing else that is public. */
+    private static void documentsFace() throws IOException {
+        if (!Files.exists(DOCUMENT)) {
+            System.out.println("there is no " + DOCUMENT + ": the face is not held against it");
+            return;
+        }
+        String document = Files.readString(DOCUMENT);
+        int start = document.indexOf("public final class ThreadMoved {");
+        Set<String> due = new TreeSet<>();
+        Matcher heads = Pattern.compile("public int (\\w+)\\(([^)]*)\\);")
+                .matcher(document.substring(start, document.indexOf("```", start)));
+        while (heads.find()) {
+            due.add(heads.group(1) + "(" + heads.group(2).replaceAll(" \\w+(,|$)", "$1") + ")");
+        }
+        Check.due("calls of the document's face", due.size(), 36);
+        Set<String> found = new TreeSet<>();
+        for (Method m : ThreadMoved.class.getDeclaredMethods()) {
+            if (Modifier.isPublic(m.getModifiers())) {
+                found.add(m.getName() + Arrays.stream(m.getParameterTypes()).map(Class::getName)
+                        .collect(Collectors.joining(", ", "(", ")")));
+            }
+        }
+        Check.dueTrue("the face is " + found + ", due is " + due, found.equals(due));
     }
 }

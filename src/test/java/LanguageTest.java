@@ -6,7 +6,9 @@ import java.lang.reflect.Modifier;
 import java.nio.file.Files;
 import java.nio.file.Path;
 import java.util.Arrays;
+import java.util.Map;
 import java.util.Set;
+import java.util.TreeMap;
 import java.util.TreeSet;
 import java.util.regex.Matcher;
 import java.util.regex.Pattern;
@@ -23,6 +25,9 @@ public final class LanguageTest {
         String code = bare(source);
         words(source, code);
         methodLengths(code);
+        library(code);
+        objectsMade(code);
+        openCalls(code);
         face();
         nestedClasses();
         Check.finish();
@@ -67,6 +72,65 @@ public final class LanguageTest {
             }
         }
         Check.dueTrue("methods were found", methods > 80);
+    }
+
+    /** Rule 4, as far as it is used: whatever else of the library would be called has to be put here first. */
+    private static void library(String code) {
+        Set<String> allowed = Set.of("Arrays.fill", "System.arraycopy", "Integer.bitCount", "Math.min");
+        Matcher calls = Pattern.compile("\\b([A-Z][a-z]\\w*\\.\\w+)").matcher(code.replaceAll("import [^;]+;", ""));
+        while (calls.find()) {
+            Check.dueTrue("of the library: " + calls.group(1), allowed.contains(calls.group(1)));
+        }
+        Matcher methods = Pattern.compile("\\bword\\.(\\w+)").matcher(code);
+        while (methods.find()) {
+            Check.dueTrue("of a text: " + methods.group(1), Set.of("length", "charAt").contains(methods.group(1)));
+        }
+    }
+
+    /** Rule 12: fields and the constructor make all objects, calls none. */
+    private static void objectsMade(String code) {
+        for (String line : code.split("\n")) {
+            if (line.contains("new ")) {
+                boolean field = line.matches(" {4,8}(private )?final [\\w\\[\\]]+ \\w+ = new .*;");
+                Check.dueTrue("made with an object: " + line.trim(), field || line.matches(" {12}(images|sheets)\\[k\\] = .*"));
+            }
+        }
+    }
+
+    /** Methods by their names, each with those that it may call; methods of one name are taken together. */
+    private static Map<String, Set<String>> callsByName(String code) {
+        Map<String, Set<String>> calls = new TreeMap<>();
+        Matcher heads = Pattern.compile("(?m)^( {4}| {8})(?! )(?:[\\w\\[\\] ]+ )?(\\w+)\\([^)]*\\) \\{\\n((?s).*?)^\\1\\}")
+                .matcher(code);
+        while (heads.find()) {
+            Set<String> called = calls.computeIfAbsent(heads.group(2), name -> new TreeSet<>());
+            Matcher uses = Pattern.compile("\\b(\\w+)\\(").matcher(heads.group(3));
+            while (uses.find()) {
+                called.add(uses.group(1));
+            }
+        }
+        return calls;
+    }
+
+    /** How many calls stand open at once below one, itself counted; above the limit, if it comes to itself. */
+    private static int deepest(Map<String, Set<String>> calls, String name, int limit) {
+        int most = 0;
+        for (String called : calls.get(name)) {
+            if (calls.containsKey(called) && limit > 0) {
+                most = Math.max(most, deepest(calls, called, limit - 1));
+            }
+        }
+        return most + 1;
+    }
+
+    /** Rules 8 and 11: there is no recursion, and calls go at most eight deep. */
+    private static void openCalls(String code) {
+        Map<String, Set<String>> calls = callsByName(code);
+        for (String name : FACE) {
+            Check.dueTrue("its body is found: " + name, calls.containsKey(name));
+            int deep = deepest(calls, name, 20);
+            Check.dueTrue("calls go at most eight deep: " + name + ", " + deep, deep <= 8);
+        }
     }
 
     private static void face() {
